@@ -150,6 +150,11 @@ public final class FeedingTest {
     x.change(0, 0, Check.DEED);
     x.change(1, 0, Check.CORN);
     Check.due("foes by the lesser", x.foes(10), 2);
+    x.plan(7, 3);
+    Check.due("foes once more", x.foes(10), 2);
+    FedHen u = Check.sated(Check.THING, Check.THING, Check.THING);
+    u.change(0, 2, 1);
+    Check.due("each loses 2, but the poor one", u.foes(10), 12);
     FedHen y = Check.hen(Check.THING, Check.THING, Check.THING);
     for (int t = 0; t < 3; t++) {
       y.change(t, 1, 1);

@@ -35,6 +35,7 @@ public final class ImagesTest {
     x.fed(2);
     x.days(2);
     x.hold(0, 2);
+    x.rule(1, 5);
     x.lent(1);
     return x;
   }

@@ -65,10 +65,13 @@ public final class SheetsTest {
     Check.due("sheet of the least", x.sheet(1, 32, Integer.MIN_VALUE), Check.SIZE);
     Check.due("it stays", x.write(1, 2, 1), 1);
     x.thing(0);
+    x.thing(0);
+    x.write(1, 0, 5);
+    x.write(1, 1, 6);
     x.sheet(1, 16, 3);
-    Check.due("all 0 again", x.judge(1), 1);
-    Check.due("all 0 again", x.load(1), 1);
-    Check.due("worth", x.of(0, 2), 0);
+    Check.due("all 0 again", x.load(1), 2);
+    Check.due("worth 0", x.of(0, 2), 0);
+    Check.due("worth 1", x.of(1, 2), 0);
   }
 
   /** What number 0 of a sheet is, told by judge() after a write of v: does it stand for want? */
@@ -120,6 +123,8 @@ public final class SheetsTest {
       Check.due("copied " + t, x.of(t, 2), due[t]);
     }
     Check.due("copy of none", x.copy(0, 4, 1, 3, 0), 0);
+    Check.due("copy of a whole one", x.copy(1, 0, 0, 1, 3), 3);
+    Check.due("copy onto a whole one", x.copy(0, 0, 1, 0, 3), 3);
     Check.due("copy of no sheet", x.copy(-1, 0, 3, 0, 1), Check.BEYOND);
     Check.due("copy to no sheet", x.copy(3, 0, 4, 0, 1), Check.BEYOND);
     Check.due("copy of a MISSING one", x.copy(3, 0, 1, 0, 9), Check.MISSING);

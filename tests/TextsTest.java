@@ -94,6 +94,9 @@ public final class TextsTest {
     fault("  goldbulk 3", 2);
     fault("golds", 0);
     fault("gol", 0);
+    fault("bold", 0);
+    fault("zunger 3", 0);
+    fault("gold zulk 3", 5);
     fault("Gold", 0);
     fault(";gold", 0);
     fault("7", 0);

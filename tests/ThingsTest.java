@@ -58,6 +58,7 @@ public final class ThingsTest {
     Check.due("11th thing", x.thing(0), Check.FULL);
     Check.due("11th thing, of no kind", x.thing(7), Check.BEYOND);
     Check.due("things", x.count(1), 10);
+    Check.due("no 11th thing", x.of(10, 0), Check.BEYOND);
   }
 
   private static void promise3Of() {

@@ -36,6 +36,13 @@ public final class WaitingTest {
     z.fed(0);
     Check.due("the egg of one that is IN doesn't count", z.fits(5, 60), 1);
     Check.due("nor for the other row", z.fits(10, 60), 1);
+    FedHen narrow = Check.sated(Check.METAL, Check.CORN, Check.THING);
+    narrow.rule(0, 3);
+    narrow.change(0, 1, 4);
+    narrow.change(2, 1, 4);
+    narrow.plan(7, 3);
+    Check.due("the first one isn't fed, the second one is", narrow.fits(5, 2), 4);
+    Check.due("nor is the second one on the first day", narrow.fits(5, 1), 2);
     FedHen late = Check.at(9990, "");
     Check.due("fits to the last day", late.fits(0, 9), 0);
     Check.due("fits above the last day", late.fits(0, 10), Check.STATE);
@@ -47,6 +54,9 @@ public final class WaitingTest {
     Check.due("may 10 in 2", x.may(10, 2), 0);
     Check.due("may 10 in 3", x.may(10, 3), 4);
     Check.due("nothing changed", x.now(0) + x.now(1), 0);
+    FedHen y = Check.sated(Check.CORN, Check.RING);
+    Check.due("one row is enough", y.may(5, 60), 1);
+    Check.due("and for the other one", y.may(15, 60), 2);
     int[][] wrong = {{-1, 5}, {105, 5}, {5, 0}, {5, 61}};
     for (int[] w : wrong) {
       Check.due("may beyond", x.may(w[0], w[1]), Check.BEYOND);
@@ -122,6 +132,10 @@ public final class WaitingTest {
     Check.due("starves 5", x.starves(5), 2);
     x.rule(1, 9);
     Check.due("hunger as it is doesn't count", x.starves(60), 2);
+    FedHen y = Check.hen(0, 0);
+    y.fed(0);
+    Check.due("one of bulk 2, not yet laid", y.starves(2), 9);
+    Check.due("thing 0 of bulk 2", y.starves(3), 2);
     Check.due("starves 0", x.starves(0), Check.BEYOND);
     Check.due("starves 61", x.starves(61), Check.BEYOND);
     FedHen late = Check.at(9990, "");
