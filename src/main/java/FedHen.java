@@ -266,7 +266,8 @@ public final class FedHen {
     int which = -1;
     for (int t = 0; t < farm.hen.things; t++) {
       if (farm.hen.isOut(t)) {
-        int sum = bringOne(t, n);
+        row[0] = t;
+        int sum = bring(1, n);
         if (sum > most) {
           most = sum;
           which = t;
@@ -778,17 +779,6 @@ public final class FedHen {
     return sum;
   }
 
-  private int bringOne(int thing, int n) {
-    row[0] = thing;
-    return bring(1, n);
-  }
-
-  private int bringTwo(int one, int other, int n) {
-    row[0] = one;
-    row[1] = other;
-    return bring(2, n);
-  }
-
   /** The most that an order of a set brings; the first such order stands in bestRow then. */
   private int findBestRow(int set, int n) {
     int size = Math.min(fillRow(set), MOST_IN_ORDERS);
@@ -835,14 +825,17 @@ public final class FedHen {
   private int worstPair(int n) {
     Hen hen = farm.hen;
     for (int t = 0; t < hen.things; t++) {
-      alone[t] = hen.isOut(t) ? bringOne(t, n) : 0;
+      row[0] = t;
+      alone[t] = hen.isOut(t) ? bring(1, n) : 0;
     }
     int pair = -1;
     int most = 0;
     for (int a = 0; a < hen.things; a++) {
       for (int b = a + 1; b < hen.things; b++) {
         if (hen.isOut(a) && hen.isOut(b)) {
-          int lost = alone[a] + alone[b] - bringTwo(a, b, n);
+          row[0] = a;
+          row[1] = b;
+          int lost = alone[a] + alone[b] - bring(2, n);
           if (pair < 0 || lost > most) {
             most = lost;
             pair = 10 * a + b;
@@ -974,14 +967,6 @@ public final class FedHen {
     private static final int[] TAKES = {3, 1, 4, 4, 5, 5, 3};
     private static final int[] STAINS = {1, 0, 2, 1, 1, 2, 4};
 
-    private static int takes(int kind) {
-      return TAKES[kind];
-    }
-
-    private static int stains(int kind) {
-      return STAINS[kind];
-    }
-
     private static int left(int kind, int worth, int stain) {
       switch (kind) {
         case CORN:
@@ -1067,8 +1052,8 @@ public final class FedHen {
         case 4: return place[t];
         case 5: return age[t];
         case 6: return stain[t];
-        case 7: return Kinds.takes(kind[t]);
-        case 8: return Kinds.stains(kind[t]);
+        case 7: return Kinds.TAKES[kind[t]];
+        case 8: return Kinds.STAINS[kind[t]];
         default: return Kinds.left(kind[t], worth[t], stain[t]);
       }
     }
@@ -1170,7 +1155,7 @@ public final class FedHen {
     }
 
     private int stainsAt(int i) {
-      return i >= 0 && i < in ? Kinds.stains(kind[crop[i]]) : 0;
+      return i >= 0 && i < in ? Kinds.STAINS[kind[crop[i]]] : 0;
     }
 
     private void layFront() {
@@ -1178,7 +1163,7 @@ public final class FedHen {
       laidWorth = 0;
       laidHollow = false;
       int t = crop[0];
-      if (in <= 0 || age[t] < Kinds.takes(kind[t])) {
+      if (in <= 0 || age[t] < Kinds.TAKES[kind[t]]) {
         return;
       }
       laidThing = t;
@@ -1281,7 +1266,7 @@ public final class FedHen {
     }
   }
 
-  /** THE TAPE, and the TOKEN at which its reading stands. */
+  /** THE TAPE, its TOKENS, and the TOKEN at which the reading of the TEXT stands. */
   private static final class Tape {
     private static final int END = 0;
     private static final int WORD = 1;
@@ -1300,11 +1285,13 @@ public final class FedHen {
 
     private final int[] bytes = new int[MOST_BYTES];
     private int size = 0;
-    private int sort = END;
-    private int begin = 0;
-    private int end = 0;
+    // No more TOKENS than bytes, and the END.
+    private final int[] sorts = new int[MOST_BYTES + 1];
+    private final int[] begins = new int[MOST_BYTES + 1];
     // A NUMBER's value, or which WORD it is (-1: another one).
-    private int value = 0;
+    private final int[] values = new int[MOST_BYTES + 1];
+    private int tokens = 0;
+    private int at = 0;
 
     private void append(int b) {
       if (size < MOST_BYTES) {
@@ -1313,129 +1300,70 @@ public final class FedHen {
       }
     }
 
-    /** Tells all to a hen: how many ITEMS; -1 less the FAULT if there is one. */
-    private int tellTo(Hen hen) {
-      int items = 0;
-      end = 0;
-      // Each round reads a TOKEN at least, so that there are no more rounds than bytes.
-      while (items <= MOST_BYTES) {
-        readToken();
-        if (!tellItem(hen)) {
-          break;
-        }
-        items++;
-        if (sort == END) {
-          return items;
-        }
-        if (sort != SIGN) {
-          break;
-        }
+    private void readTokens() {
+      tokens = 0;
+      int i = 0;
+      for (int round = 0; round < MOST_BYTES && i < size; round++) {
+        i = bytes[i] == ' ' ? i + 1 : readToken(i);
       }
-      return -1 - begin;
+      addToken(END, size, 0);
     }
 
-    /** Stands at the TOKEN behind the ITEM then; false: at the one that can't stand there. */
-    private boolean tellItem(Hen hen) {
-      if (sort != WORD || value < 0) {
-        return false;
+    private void addToken(int sort, int begin, int value) {
+      if (tokens < sorts.length) {
+        sorts[tokens] = sort;
+        begins[tokens] = begin;
+        values[tokens] = value;
+        tokens++;
       }
-      if (value <= LAST_KIND) {
-        return tellThing(hen, hen.addThing(value));
-      }
-      if (value == ROOM) {
-        if (!readNumber(1, MOST_ROOM)) {
-          return false;
+    }
+
+    /** The place behind the TOKEN that begins here. */
+    private int readToken(int begin) {
+      int end = begin + 1;
+      if (isLetter(bytes[begin])) {
+        while (end < size && isLetter(bytes[end])) {
+          end++;
         }
-        hen.room = value;
-      } else if (value == HUNGER) {
-        if (!readNumber(0, MOST_HUNGER)) {
-          return false;
-        }
-        hen.hunger = value;
-      } else {
-        return false;
-      }
-      readToken();
-      return true;
-    }
-
-    private boolean tellThing(Hen hen, int thing) {
-      if (thing < 0) {
-        return false;
-      }
-      readToken();
-      return tellPart(hen, thing, BULK, 1, MOST_BULK)
-          && tellPart(hen, thing, WORTH, 0, MOST_WORTH)
-          && tellPart(hen, thing, OWNER, 0, 1);
-    }
-
-    private boolean tellPart(Hen hen, int thing, int word, int least, int most) {
-      if (sort != WORD || value != word) {
-        return true;
-      }
-      if (!readNumber(least, most)) {
-        return false;
-      }
-      hen.alter(thing, 1 + word - BULK, value);
-      readToken();
-      return true;
-    }
-
-    private boolean readNumber(int least, int most) {
-      readToken();
-      return sort == NUMBER && within(value, least, most);
-    }
-
-    private void readToken() {
-      begin = end;
-      while (begin < size && bytes[begin] == ' ') {
-        begin++;
-      }
-      end = begin;
-      if (begin >= size) {
-        sort = END;
-      } else if (isLetter(bytes[begin])) {
-        readLetters();
+        addToken(WORD, begin, wordBetween(begin, end));
       } else if (isDigit(bytes[begin])) {
-        readDigits();
+        while (end < size && isDigit(bytes[end])) {
+          end++;
+        }
+        addToken(NUMBER, begin, numberBetween(begin, end));
       } else {
-        sort = bytes[begin] == ';' ? SIGN : OTHER;
-        end++;
+        addToken(bytes[begin] == ';' ? SIGN : OTHER, begin, 0);
       }
+      return end;
     }
 
     private static boolean isLetter(int b) {
-      return within(b, 'a', 'z');
+      return b >= 'a' && b <= 'z';
     }
 
     private static boolean isDigit(int b) {
-      return within(b, '0', '9');
+      return b >= '0' && b <= '9';
     }
 
-    private void readLetters() {
-      sort = WORD;
-      while (end < size && isLetter(bytes[end])) {
-        end++;
+    private int numberBetween(int begin, int end) {
+      int value = 0;
+      for (int i = begin; i < end; i++) {
+        // Held just above the last NUMBER, so that it can't run over.
+        value = Math.min(LAST_NUMBER + 1, value * 10 + bytes[i] - '0');
       }
-      value = -1;
+      return value;
+    }
+
+    private int wordBetween(int begin, int end) {
       for (int w = 0; w <= LAST_WORD; w++) {
-        if (isToken(wordOf(w))) {
-          value = w;
+        if (isWord(wordOf(w), begin, end)) {
+          return w;
         }
       }
+      return -1;
     }
 
-    private void readDigits() {
-      sort = NUMBER;
-      value = 0;
-      while (end < size && isDigit(bytes[end])) {
-        // Held just above the last NUMBER, so that it can't run over.
-        value = Math.min(LAST_NUMBER + 1, value * 10 + bytes[end] - '0');
-        end++;
-      }
-    }
-
-    private boolean isToken(String word) {
+    private boolean isWord(String word, int begin, int end) {
       if (word.length() != end - begin) {
         return false;
       }
@@ -1462,6 +1390,82 @@ public final class FedHen {
         case ROOM: return "room";
         default: return "hunger";
       }
+    }
+
+    /** Tells all to a hen: how many ITEMS; -1 less the FAULT if there is one. */
+    private int tellTo(Hen hen) {
+      readTokens();
+      at = 0;
+      for (int items = 1; items <= MOST_BYTES && tellItem(hen); items++) {
+        if (sorts[at] == END) {
+          return items;
+        }
+        if (sorts[at] != SIGN) {
+          break;
+        }
+        step();
+      }
+      return -1 - begins[at];
+    }
+
+    // The END is the last TOKEN; there is no step behind it.
+    private void step() {
+      if (at < tokens - 1) {
+        at++;
+      }
+    }
+
+    /** Stands at the TOKEN behind the ITEM then; false: at the one that can't stand there. */
+    private boolean tellItem(Hen hen) {
+      int word = sorts[at] == WORD ? values[at] : -1;
+      if (word < 0) {
+        return false;
+      }
+      if (word <= LAST_KIND) {
+        return tellThing(hen, hen.addThing(word));
+      }
+      return (word == ROOM || word == HUNGER) && tellRule(hen, word == ROOM);
+    }
+
+    private boolean tellRule(Hen hen, boolean isRoom) {
+      step();
+      if (!(isRoom ? isNumber(1, MOST_ROOM) : isNumber(0, MOST_HUNGER))) {
+        return false;
+      }
+      if (isRoom) {
+        hen.room = values[at];
+      } else {
+        hen.hunger = values[at];
+      }
+      step();
+      return true;
+    }
+
+    private boolean tellThing(Hen hen, int thing) {
+      if (thing < 0) {
+        return false;
+      }
+      step();
+      return tellPart(hen, thing, BULK, 1, MOST_BULK)
+          && tellPart(hen, thing, WORTH, 0, MOST_WORTH)
+          && tellPart(hen, thing, OWNER, 0, 1);
+    }
+
+    private boolean tellPart(Hen hen, int thing, int word, int least, int most) {
+      if (sorts[at] != WORD || values[at] != word) {
+        return true;
+      }
+      step();
+      if (!isNumber(least, most)) {
+        return false;
+      }
+      hen.alter(thing, 1 + word - BULK, values[at]);
+      step();
+      return true;
+    }
+
+    private boolean isNumber(int least, int most) {
+      return sorts[at] == NUMBER && within(values[at], least, most);
     }
   }
 
