@@ -8,6 +8,7 @@ public final class TextsTest {
     promise35Faults();
     promise35EndsTooEarly();
     promise35Eleventh();
+    promise35FullTape();
     Check.end();
   }
 
@@ -63,6 +64,9 @@ public final class TextsTest {
     Check.due("room", x.now(5), 40);
     Check.due("hunger", x.now(6), 0);
     Check.due("no findings", x.status(-1), 0);
+    Check.due("the least room", Check.text(x, "room 1;hunger 9"), 2);
+    Check.due("room", x.now(5), 1);
+    Check.due("hunger", x.now(6), 9);
   }
 
   private static void promise35Told() {
@@ -95,6 +99,8 @@ public final class TextsTest {
     fault("golds", 0);
     fault("gol", 0);
     fault("bold", 0);
+    fault("golda", 0);
+    fault("goldz", 0);
     fault("zunger 3", 0);
     fault("gold zulk 3", 5);
     fault("Gold", 0);
@@ -150,5 +156,20 @@ public final class TextsTest {
     Check.due("things", x.count(1), 10);
     Check.due("the 11th at once", Check.text(x, "room 6;thing"), -1 - 7);
     Check.due("room without things", Check.text(x, "room 6"), 1);
+  }
+
+  private static void promise35FullTape() {
+    fault(";".repeat(120), 0);
+    fault("room 5" + ";".repeat(114), 7);
+    fault("room 5;".repeat(17) + "x", 119);
+    fault("gold" + " ".repeat(114) + "of", 120);
+    fault(" ".repeat(119) + "1", 119);
+    fault(" ".repeat(120), 120);
+    FedHen x = new FedHen();
+    Check.due("a WORD at the end", Check.text(x, " ".repeat(116) + "deed"), 1);
+    Check.due("a NUMBER at the end", Check.text(x, "hunger" + " ".repeat(113) + "7"), 1);
+    Check.due("hunger", x.now(6), 7);
+    Check.due("many ITEMS", Check.text(x, "room1;".repeat(19) + "room30"), 20);
+    Check.due("room", x.now(5), 30);
   }
 }
