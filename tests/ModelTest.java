@@ -5,7 +5,8 @@ import java.util.Random;
 /** All promises: long runs of calls by chance (always the same), each answer against the Model's. */
 public final class ModelTest {
   private static final int RUNS = 400;
-  private static final int CALLS = 400;
+  // A text takes some 40 calls at most, and 512 calls are promised.
+  private static final int MOST_CALLS = 470;
   private static final int METHODS = 56;
   private static final int[] EXTREMES = {-1, 10, 41, 61, 100, 105, 9999, 1 << 10, -1000001, Integer.MIN_VALUE,
       Integer.MAX_VALUE, Integer.MAX_VALUE - 3};
@@ -16,6 +17,7 @@ public final class ModelTest {
   private final FedHen hen = new FedHen();
   private final Model model = new Model();
   private String pending = "";
+  private int calls = 0;
 
   private ModelTest(int run) {
     chance = new Random(run);
@@ -31,7 +33,7 @@ public final class ModelTest {
   private void go(int run) {
     List<String> rows = new ArrayList<>();
     boolean late = run % 8 == 7;
-    for (int call = 0; call < CALLS; call++) {
+    for (int call = 0; calls < MOST_CALLS; call++) {
       String row;
       if (late && call < 167) {
         row = both(9, new int[] {call < 166 ? 60 : 1 + below(39), 0, 0, 0, 0});
@@ -115,6 +117,7 @@ public final class ModelTest {
   }
 
   private String both(int method, int[] v) {
+    calls++;
     int due = ask(method, v, true);
     int got = ask(method, v, false);
     return "method " + method + " of " + v[0] + " " + v[1] + " " + v[2] + " " + v[3] + " " + v[4] + ": " + got
@@ -193,12 +196,8 @@ public final class ModelTest {
     if (m) {
       pending = slip(items());
     }
-    for (int i = 0; i < pending.length(); i++) {
-      int feed = m ? model.feed(pending.charAt(i), 1) : hen.feed(pending.charAt(i), 1);
-      if (feed < 0) {
-        break;
-      }
-    }
+    Rows.tape(m ? model : hen, pending);
+    calls += pending.length() / 4 + 1;
     return m ? model.text() : hen.text();
   }
 
