@@ -1,4 +1,3 @@
-import java.util.ArrayList;
 import java.util.List;
 
 /** The bounds that the Terms' 2. A DAY and promises 10 to 15 name, from both sides. */
@@ -19,20 +18,6 @@ public final class DayEdgesTest {
     promise13And14When();
     promise15Spoils();
     Check.end();
-  }
-
-  private static List<String> and(List<String> setup, String... more) {
-    List<String> calls = new ArrayList<>(setup);
-    calls.addAll(List.of(more));
-    return calls;
-  }
-
-  private static List<String> sated(int... kinds) {
-    List<String> calls = new ArrayList<>(List.of("rule(1, 0)"));
-    for (int kind : kinds) {
-      calls.add("thing(" + kind + ")");
-    }
-    return calls;
   }
 
   private static void terms2LastDay() {
@@ -91,7 +76,7 @@ public final class DayEdgesTest {
       List<String> one = List.of("thing(0)", "change(0, 1, " + bulk + ")", "fed(0)");
       for (int hunger = 0; hunger <= 9; hunger++) {
         boolean hollow = bulk < hunger;
-        Rows.after(and(one, "rule(1, " + hunger + ")"), "bulk " + bulk + ", hunger " + hunger,
+        Rows.after(Hens.and(one, "rule(1, " + hunger + ")"), "bulk " + bulk + ", hunger " + hunger,
             "worth(0) = " + (hollow ? 0 : 10), "days(3) = " + (hollow ? 0 : 10), "now(3) = 1",
             "now(4) = " + (hollow ? 1 : 0), "egg(0, 0) = 0", "egg(0, 1) = " + (hollow ? 0 : 10));
       }
@@ -99,37 +84,40 @@ public final class DayEdgesTest {
     List<String> two = List.of("thing(0)", "thing(1)", "change(0, 1, 1)", "change(1, 1, 1)", "fed(0)", "fed(1)");
     Rows.after(two, "the other one counts too", "days(3) = 10", "now(4) = 0", "days(1) = 0", "now(4) = 1", "now(3) = 2",
         "egg(1, 1) = 10", "egg(0, 1) = 0", "laid(0) = 3", "home(0) = 10", "home(1) = 0");
-    Rows.after(and(two, "rule(1, 3)"), "both hollow", "ahead(60, 0) = 2", "ahead(60, 1) = 0", "days(60) = 0",
+    Rows.after(Hens.and(two, "rule(1, 3)"), "both hollow", "ahead(60, 0) = 2", "ahead(60, 1) = 0", "days(60) = 0",
         "now(4) = 2");
   }
 
   private static void terms2OneADay() {
-    List<String> eight = sated(1, 1, 1, 1, 1, 1, 1, 1);
+    List<String> eight = Hens.sated(1, 1, 1, 1, 1, 1, 1, 1);
     eight.add("rule(0, 40)");
     for (int t = 0; t < 8; t++) {
       eight.add("fed(" + t + ")");
     }
     for (int n = 1; n <= 9; n++) {
-      Rows.after(eight, "one a day", "ahead(" + n + ", 0) = " + Math.min(8, n), "days(" + n + ") = " + 5 * Math.min(8, n),
-          "now(3) = " + Math.min(8, n), "now(1) = " + Math.max(0, 8 - n), "egg(0, 2) = " + Math.min(7, n - 1));
+      Rows.after(eight, "one a day", "ahead(" + n + ", 0) = " + Math.min(8, n), "days(" + n + ") = " + 5 * Math.min(8,
+          n), "now(3) = " + Math.min(8, n), "now(1) = " + Math.max(0, 8 - n), "egg(0, 2) = " + Math.min(7, n - 1));
     }
-    Rows.after(and(eight, "days(7)"), "the last of eight", "when(7) = 1", "of(7, 5) = 7", "days(2) = 5", "days(1) = 0");
+    Rows.after(Hens.and(eight, "days(7)"), "the last of eight", "when(7) = 1", "of(7, 5) = 7", "days(2) = 5",
+        "days(1) = 0");
   }
 
   private static void terms2AsManyDaysOrMore() {
-    Rows.after(and(sated(4, 0), "fed(0)", "fed(1)", "days(5)"), "more days, for one is ahead", "now(3) = 1",
+    Rows.after(Hens.and(Hens.sated(4, 0), "fed(0)", "fed(1)", "days(5)"), "more days, for one is ahead", "now(3) = 1",
         "of(1, 5) = 5", "of(1, 7) = 3", "when(1) = 1", "days(1) = 5");
-    Rows.after(and(sated(4), "fed(0)", "days(3)"), "a kind that takes as many", "change(0, 0, 2) = 4", "days(1) = 10");
-    Rows.after(and(sated(4), "fed(0)", "days(3)"), "a kind that takes less", "change(0, 0, 1) = 4", "days(1) = 5");
-    Rows.after(and(sated(0), "fed(0)", "days(2)"), "a kind that takes more", "change(0, 0, 2) = 0", "days(1) = 0",
-        "of(0, 5) = 3", "days(1) = 10");
-    Rows.after(and(sated(4, 1), "fed(0)", "fed(1)", "days(4)"), "the front one waits: none is laid", "now(3) = 0",
-        "of(1, 5) = 4", "days(1) = 15", "days(1) = 5");
+    Rows.after(Hens.and(Hens.sated(4), "fed(0)", "days(3)"), "a kind that takes as many", "change(0, 0, 2) = 4",
+        "days(1) = 10");
+    Rows.after(Hens.and(Hens.sated(4), "fed(0)", "days(3)"), "a kind that takes less", "change(0, 0, 1) = 4",
+        "days(1) = 5");
+    Rows.after(Hens.and(Hens.sated(0), "fed(0)", "days(2)"), "a kind that takes more", "change(0, 0, 2) = 0",
+        "days(1) = 0", "of(0, 5) = 3", "days(1) = 10");
+    Rows.after(Hens.and(Hens.sated(4, 1), "fed(0)", "fed(1)", "days(4)"), "the front one waits: none is laid",
+        "now(3) = 0", "of(1, 5) = 4", "days(1) = 15", "days(1) = 5");
   }
 
   /** No STAIN can come higher: the seventh of eight, between DEEDS for ten DAYS, and one more behind its turn. */
   private static void terms2HighStain() {
-    List<String> eight = sated(4, 4, 4, 4, 4, 6, 0, 6);
+    List<String> eight = Hens.sated(4, 4, 4, 4, 4, 6, 0, 6);
     eight.add("rule(0, 40)");
     eight.add("change(6, 2, 99)");
     for (int t = 0; t < 8; t++) {
@@ -137,53 +125,56 @@ public final class DayEdgesTest {
     }
     Rows.after(eight, "high stain", "when(6) = 11", "worth(6) = 15", "days(10) = 45", "of(6, 6) = 80", "of(6, 9) = 19",
         "days(1) = 15", "egg(0, 0) = 6", "egg(0, 1) = 15");
-    Rows.after(and(eight, "change(6, 0, 3)"), "high stain, gold", "worth(6) = 57");
-    Rows.after(and(eight, "change(6, 2, 84)"), "high stain, all is lost", "worth(6) = 0", "change(6, 2, 85) = 84",
+    Rows.after(Hens.and(eight, "change(6, 0, 3)"), "high stain, gold", "worth(6) = 57");
+    Rows.after(Hens.and(eight, "change(6, 2, 84)"), "high stain, all is lost", "worth(6) = 0", "change(6, 2, 85) = 84",
         "worth(6) = 1", "change(6, 2, 83) = 85", "worth(6) = 0");
   }
 
   private static void terms2TwelveEggs() {
-    List<String> calls = sated(1);
+    List<String> calls = Hens.sated(1);
     for (int i = 0; i < 20; i++) {
-      calls = and(calls, "change(0, 2, " + 2 * i + ")", "fed(0)", "days(1)", "home(0)");
+      calls = Hens.and(calls, "change(0, 2, " + 2 * i + ")", "fed(0)", "days(1)", "home(0)");
     }
     FedHen x = Rows.make(calls);
     for (int i = 0; i < 12; i++) {
-      Rows.due("20 eggs", x, "egg(" + i + ", 0) = 0", "egg(" + i + ", 1) = " + (19 - i), "egg(" + i + ", 2) = " + (19 - i));
+      Rows.due("20 eggs", x, "egg(" + i + ", 0) = 0", "egg(" + i + ", 1) = " + (19 - i),
+          "egg(" + i + ", 2) = " + (19 - i));
     }
     Rows.due("20 eggs", x, "egg(12, 0) = NONE", "egg(12, 1) = NONE", "egg(12, 2) = NONE", "now(3) = 20", "now(4) = 0");
   }
 
   private static void terms2Ahead() {
-    Rows.after(and(sated(4, 0), "fed(0)", "days(2)"), "ahead, nothing being fed", "ahead(0, 0) = 0", "ahead(0, 1) = 0",
-        "ahead(0, 2) = 1", "ahead(0, 4) = 0", "ahead(3, 1) = 15", "ahead(60, 1) = 15", "now(0) = 2", "now(3) = 0",
-        "of(0, 5) = 2", "of(1, 4) = 0", "egg(0, 0) = NONE", "laid(0) = 0", "count(0) = 2");
+    Rows.after(Hens.and(Hens.sated(4, 0), "fed(0)", "days(2)"), "ahead, nothing being fed", "ahead(0, 0) = 0",
+        "ahead(0, 1) = 0", "ahead(0, 2) = 1", "ahead(0, 4) = 0", "ahead(3, 1) = 15", "ahead(60, 1) = 15", "now(0) = 2",
+        "now(3) = 0", "of(0, 5) = 2", "of(1, 4) = 0", "egg(0, 0) = NONE", "laid(0) = 0", "count(0) = 2");
   }
 
   private static void promise10Days() {
-    Rows.after(and(sated(0, 0), "fed(0)", "fed(1)"), "days", "days(-1) = BEYOND", "days(0) = BEYOND",
+    Rows.after(Hens.and(Hens.sated(0, 0), "fed(0)", "fed(1)"), "days", "days(-1) = BEYOND", "days(0) = BEYOND",
         "days(61) = BEYOND", "now(0) = 0", "of(0, 5) = 0", "days(1) = 0", "days(2) = 7", "days(60) = 7", "now(0) = 63");
     Rows.after(Rows.at(9999), "BEYOND ahead of STATE", "days(61) = BEYOND", "days(0) = BEYOND", "days(60) = STATE");
   }
 
   private static void promise11Now() {
-    Rows.after(and(sated(1, 0), "fed(0)", "days(1)", "fed(1)"), "now", "now(-1) = BEYOND", "now(0) = 1", "now(1) = 1",
-        "now(2) = 2", "now(3) = 1", "now(4) = 0", "now(5) = 12", "now(6) = 0", "now(7) = BEYOND", "status(0) = 2");
+    Rows.after(Hens.and(Hens.sated(1, 0), "fed(0)", "days(1)", "fed(1)"), "now", "now(-1) = BEYOND", "now(0) = 1",
+        "now(1) = 1", "now(2) = 2", "now(3) = 1", "now(4) = 0", "now(5) = 12", "now(6) = 0", "now(7) = BEYOND",
+        "status(0) = 2");
   }
 
   private static void promise12Ahead() {
-    List<String> two = and(sated(0, 0), "fed(1)", "fed(0)", "days(1)");
+    List<String> two = Hens.and(Hens.sated(0, 0), "fed(1)", "fed(0)", "days(1)");
     Rows.after(two, "ahead", "ahead(-1, 0) = BEYOND", "ahead(0, -1) = BEYOND", "ahead(0, 5) = BEYOND",
         "ahead(61, 0) = BEYOND", "ahead(0, 0) = 0", "ahead(0, 1) = 0", "ahead(0, 2) = 2", "ahead(0, 3) = 2",
-        "ahead(0, 4) = 1", "ahead(2, 0) = 1", "ahead(2, 1) = 7", "ahead(2, 2) = 1", "ahead(2, 3) = 3", "ahead(2, 4) = 0",
-        "ahead(3, 4) = -1", "ahead(3, 3) = 0", "ahead(60, 0) = 2", "ahead(60, 1) = 14", "ahead(60, 2) = 0");
+        "ahead(0, 4) = 1", "ahead(2, 0) = 1", "ahead(2, 1) = 7", "ahead(2, 2) = 1", "ahead(2, 3) = 3",
+        "ahead(2, 4) = 0", "ahead(3, 4) = -1", "ahead(3, 3) = 0", "ahead(60, 0) = 2", "ahead(60, 1) = 14",
+        "ahead(60, 2) = 0");
     Rows.after(Rows.at(9999), "BEYOND ahead of STATE", "ahead(1, 5) = BEYOND", "ahead(61, 0) = BEYOND",
         "ahead(60, 0) = STATE");
   }
 
   /** Of eight RINGS the last one comes behind 12 DAYS. */
   private static void promise13And14When() {
-    List<String> eight = sated(4, 4, 4, 4, 4, 4, 4, 4, 4);
+    List<String> eight = Hens.sated(4, 4, 4, 4, 4, 4, 4, 4, 4);
     eight.add("rule(0, 40)");
     for (int t = 0; t < 8; t++) {
       eight.add("fed(" + t + ")");
@@ -197,20 +188,21 @@ public final class DayEdgesTest {
   }
 
   private static void promise15Spoils() {
-    Rows.after(and(sated(0), "fed(0)"), "as much as its worth", "spoils() = NONE", "change(0, 0, 4) = 0",
+    Rows.after(Hens.and(Hens.sated(0), "fed(0)"), "as much as its worth", "spoils() = NONE", "change(0, 0, 4) = 0",
         "spoils() = NONE", "change(0, 0, 1) = 4", "spoils() = 1", "change(0, 2, 1) = 10", "spoils() = 1",
         "change(0, 2, 0) = 1", "spoils() = NONE");
-    Rows.after(and(sated(4, 0), "change(0, 2, 20)", "fed(0)", "fed(1)"), "a ring as much, then one less",
+    Rows.after(Hens.and(Hens.sated(4, 0), "change(0, 2, 20)", "fed(0)", "fed(1)"), "a ring as much, then one less",
         "worth(0) = 23", "spoils() = 6", "change(1, 0, 6) = 0", "worth(0) = 15", "spoils() = 5");
-    Rows.after(and(sated(4, 2), "fed(0)", "fed(1)"), "one of stain 10", "worth(0) = 10", "spoils() = 6",
+    Rows.after(Hens.and(Hens.sated(4, 2), "fed(0)", "fed(1)"), "one of stain 10", "worth(0) = 10", "spoils() = 6",
         "change(1, 2, 0) = 10", "spoils() = NONE");
     Rows.after(List.of("thing(0)", "fed(0)", "rule(1, 3)"), "hollow", "spoils() = 3", "change(0, 2, 0) = 10",
         "spoils() = NONE");
-    List<String> eight = sated(4, 4, 4, 4, 4, 4, 4, 5);
+    List<String> eight = Hens.sated(4, 4, 4, 4, 4, 4, 4, 5);
     eight.add("rule(0, 40)");
     for (int t = 0; t < 8; t++) {
       eight.add("fed(" + t + ")");
     }
-    Rows.after(and(eight, "change(7, 2, 1)"), "the third of eight is the first", "change(0, 2, 0) = 10", "spoils() = 7");
+    Rows.after(Hens.and(eight, "change(7, 2, 1)"), "the third of eight is the first", "change(0, 2, 0) = 10",
+        "spoils() = 7");
   }
 }

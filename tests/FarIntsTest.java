@@ -21,17 +21,17 @@ public final class FarIntsTest {
       "may(0, 1): BEYOND BEYOND, BEYOND BEYOND", "laid(0): BEYOND BEYOND", "room(0): BEYOND BEYOND",
       "starves(1): BEYOND BEYOND", "lent(1): BEYOND BEYOND", "hold(0, 0): BEYOND BEYOND, BEYOND BEYOND",
       "hold(0, -1): BEYOND BEYOND, BEYOND BEYOND", "as(0, 0): BEYOND BEYOND, BEYOND BEYOND",
-      "sheet(0, 8, 1): BEYOND BEYOND, BEYOND BEYOND, SIZE BEYOND", "sheet(0, 0, 1): BEYOND BEYOND, BEYOND BEYOND, SIZE BEYOND",
-      "write(0, 0, 5): BEYOND BEYOND, BEYOND BEYOND, 1 1",
+      "sheet(0, 8, 1): BEYOND BEYOND, BEYOND BEYOND, SIZE BEYOND",
+      "sheet(0, 0, 1): BEYOND BEYOND, BEYOND BEYOND, SIZE BEYOND", "write(0, 0, 5): BEYOND BEYOND, BEYOND BEYOND, 1 1",
       "copy(0, 0, 0, 0, 1): BEYOND BEYOND, BEYOND BEYOND, BEYOND BEYOND, BEYOND BEYOND, BEYOND BEYOND",
       "copy(0, 0, 0, 0, 0): BEYOND BEYOND, BEYOND BEYOND, BEYOND BEYOND, BEYOND BEYOND, BEYOND BEYOND",
       "load(0): BEYOND BEYOND", "judge(0): BEYOND BEYOND", "count(0): BEYOND BEYOND", "status(0): BEYOND BEYOND"};
 
   public static void main(String[] args) {
     for (String call : CALLS) {
-      eachParameter("busy", States.busy(), call);
-      eachParameter("full", States.full(), call);
-      eachParameter("day 9999", States.late(9999), call);
+      eachParameter("busy", Hens.busy(), call);
+      eachParameter("full", Hens.full(), call);
+      eachParameter("day 9999", Hens.late(9999), call);
       allParameters(call);
     }
     wherePartIsMissing();
@@ -79,19 +79,19 @@ public final class FarIntsTest {
       }
       rows.add(far + " = BEYOND");
     }
-    Rows.after(States.busy(), "all far", rows.toArray(new String[0]));
+    Rows.after(Hens.busy(), "all far", rows.toArray(new String[0]));
     Rows.after(List.of(), "all far, empty", rows.toArray(new String[0]));
   }
 
   private static void wherePartIsMissing() {
-    Refused.on("a MISSING sheet", States.busy(), "write(3, MIN, 0) = MISSING", "write(3, MAX, 0) = MISSING",
+    Refused.on("a MISSING sheet", Hens.busy(), "write(3, MIN, 0) = MISSING", "write(3, MAX, 0) = MISSING",
         "copy(3, MIN, 0, 0, 0) = MISSING", "copy(0, 0, 3, MAX, 0) = MISSING", "copy(3, 0, 3, 0, MIN) = MISSING",
         "copy(0, MAX, 1, 0, 0) = KIND", "copy(0, 0, 1, MIN, 0) = KIND", "copy(0, 0, 1, 0, MAX) = KIND",
         "sheet(3, 0, MIN) = SIZE", "sheet(3, 0, MAX) = BEYOND", "as(1, MIN) = BEYOND", "as(1, MAX) = BEYOND");
     Refused.on("no things", List.of(), "lent(MIN) = BEYOND", "lent(MAX) = BEYOND", "foes(MIN) = BEYOND",
         "foes(MAX) = BEYOND", "crop(MIN) = BEYOND", "crop(MAX) = BEYOND", "egg(MAX, 0) = NONE", "egg(MIN, 0) = BEYOND",
         "room(MIN) = BEYOND", "room(MAX) = BEYOND", "plan(MAX, 1) = BEYOND", "kindFor(MAX, 1) = BEYOND");
-    Refused.on("the full tape", States.full(), "feed(MIN, 1) = FULL", "feed(MAX, 4) = FULL", "feed(0, MIN) = BEYOND",
+    Refused.on("the full tape", Hens.full(), "feed(MIN, 1) = FULL", "feed(MAX, 4) = FULL", "feed(0, MIN) = BEYOND",
         "feed(0, MAX) = BEYOND");
   }
 

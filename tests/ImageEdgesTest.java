@@ -7,6 +7,7 @@ public final class ImageEdgesTest {
     promise43And44Nothing();
     promise43KeptAnew();
     promise43EachPartIsKept();
+    promise44HollowEggs();
     promise44TapeAndSheetsStay();
     promise44StatusStays();
     promise44FullHenAndEmptyOne();
@@ -15,12 +16,6 @@ public final class ImageEdgesTest {
     promise47EachFinding();
     promise47Bounds();
     Check.end();
-  }
-
-  private static List<String> and(List<String> setup, String... more) {
-    List<String> calls = new ArrayList<>(setup);
-    calls.addAll(List.of(more));
-    return calls;
   }
 
   private static void promise43And44Nothing() {
@@ -32,6 +27,13 @@ public final class ImageEdgesTest {
   private static void promise43KeptAnew() {
     Rows.after(List.of("days(3)", "image()", "days(4)", "image()", "days(5)"), "the latest one", "undo() = 7",
         "now(0) = 7", "days(60) = 0", "undo() = 7", "tear() = 1", "undo() = NONE", "now(0) = 7");
+  }
+
+  private static void promise44HollowEggs() {
+    Rows.after(List.of("rule(1, 9)", "thing(1)", "thing(1)", "fed(0)", "days(1)", "image()", "fed(1)", "days(1)"),
+        "hollow ones ever", "now(3) = 2", "now(4) = 2", "undo() = 1", "now(3) = 1", "now(4) = 1", "egg(0, 0) = 0",
+        "egg(1, 0) = NONE", "laid(0) = 1", "rule(1, 0) = 9", "fed(1) = 1", "days(1) = 5", "now(3) = 2", "now(4) = 1",
+        "undo() = 1", "now(4) = 1", "tear() = 1");
   }
 
   /** Each call changes one part of what is kept; the undo takes it back, and that alone. */
@@ -76,11 +78,11 @@ public final class ImageEdgesTest {
     for (int t = 0; t < 8; t++) {
       empty.add("fed(" + t + ")");
     }
-    Rows.after(and(empty, "days(60)"), "the empty one again", "now(3) = 8", "undo() = 0", "count(1) = 0",
+    Rows.after(Hens.and(empty, "days(60)"), "the empty one again", "now(3) = 8", "undo() = 0", "count(1) = 0",
         "count(2) = 0", "count(3) = 0", "count(4) = 0", "count(7) = 0", "now(2) = 0", "now(5) = 12", "crop(0) = NONE",
         "egg(0, 0) = NONE", "of(0, 0) = BEYOND", "as(0, 0) = MISSING", "laid(0) = 0", "thing(6) = 0", "of(0, 4) = 0",
         "of(0, 5) = 0", "of(0, 6) = 0", "of(0, 2) = 10", "fed(0) = 1", "crop(0) = 0", "crop(1) = NONE");
-    Rows.after(and(empty, "days(2)", "image()", "days(60)"), "the full one again", "now(1) = 0", "undo() = 2",
+    Rows.after(Hens.and(empty, "days(2)", "image()", "days(60)"), "the full one again", "now(1) = 0", "undo() = 2",
         "count(1) = 10", "count(2) = 8", "crop(7) = 7", "of(7, 5) = 2", "of(7, 6) = 2", "of(6, 6) = 4",
         "egg(0, 0) = NONE", "fed(8) = FULL", "thing(0) = FULL", "as(9, 0) = 9", "days(1) = 7", "egg(0, 2) = 2");
   }

@@ -20,12 +20,6 @@ public final class SheetEdgesTest {
     Check.end();
   }
 
-  private static List<String> and(List<String> setup, String... more) {
-    List<String> calls = new ArrayList<>(setup);
-    calls.addAll(List.of(more));
-    return calls;
-  }
-
   private static void promise36Hold() {
     List<String> two = List.of("thing(0)", "thing(1)");
     Rows.after(two, "hold", "hold(-1, 0) = BEYOND", "hold(0, 0) = 1", "hold(9, 0) = 1", "hold(10, 0) = BEYOND",
@@ -37,7 +31,7 @@ public final class SheetEdgesTest {
       Rows.due("all spots", x, "as(" + spot + ", 0) = MISSING", "hold(" + spot + ", " + spot % 2 + ") = 1",
           "as(" + spot + ", 0) = " + spot % 2, "count(7) = " + (spot + 1));
     }
-    Rows.after(and(two, "hold(0, 1)", "fed(1)"), "one that is in, or laid", "as(0, 1) = 1", "days(1) = 5",
+    Rows.after(Hens.and(two, "hold(0, 1)", "fed(1)"), "one that is in, or laid", "as(0, 1) = 1", "days(1) = 5",
         "as(0, 1) = 1", "hold(1, 1) = 1", "home(1) = 5", "as(1, 5) = KIND");
   }
 
@@ -77,7 +71,8 @@ public final class SheetEdgesTest {
   private static void promise38Zeros() {
     Rows.after(List.of("thing(0)", "thing(0)", "sheet(0, 8, 2)", "write(0, 0, 5)", "write(0, 1, 6)"), "all 0 anew",
         "load(0) = 2", "of(1, 2) = 6", "sheet(0, 8, 1) = 1", "sheet(0, 32, 2) = 2", "load(0) = 2", "of(0, 2) = 0",
-        "of(1, 2) = 0", "write(0, 1, 7) = 1", "sheet(0, 0, 0) = 0", "sheet(0, 8, 2) = 2", "load(0) = 2", "of(1, 2) = 0");
+        "of(1, 2) = 0", "write(0, 1, 7) = 1", "sheet(0, 0, 0) = 0", "sheet(0, 8, 2) = 2", "load(0) = 2",
+        "of(1, 2) = 0");
   }
 
   private static void promise39Bounds() {
@@ -143,7 +138,7 @@ public final class SheetEdgesTest {
         "copy(0, 1, 1, 0, MAX) = BEYOND", "copy(0, MAX, 1, MAX, MAX) = BEYOND", "copy(0, MIN, 1, 0, 1) = BEYOND",
         "copy(0, 0, 1, MIN, 1) = BEYOND", "copy(0, 0, 1, 0, MIN) = BEYOND", "copy(0, 0, 1, MAX, 1) = BEYOND",
         "copy(0, MAX, 1, 0, MIN) = BEYOND", "copy(0, 0, 1, 0, 3) = 3");
-    Rows.after(and(sheets, "sheet(1, 0, 0)"), "copy, MISSING", "copy(0, 0, 1, 0, 1) = MISSING",
+    Rows.after(Hens.and(sheets, "sheet(1, 0, 0)"), "copy, MISSING", "copy(0, 0, 1, 0, 1) = MISSING",
         "copy(1, 0, 0, 0, 1) = MISSING", "copy(1, 0, 1, 0, 0) = MISSING", "copy(0, -1, 1, 0, 9) = MISSING",
         "copy(1, 0, 4, 0, 1) = BEYOND", "copy(-1, 0, 1, 0, 1) = BEYOND", "copy(MIN, 0, 0, 0, 0) = BEYOND",
         "copy(0, 0, MAX, 0, 0) = BEYOND", "copy(4, 0, 0, 0, 0) = BEYOND", "copy(0, 0, -1, 0, 0) = BEYOND");
@@ -169,7 +164,8 @@ public final class SheetEdgesTest {
         x.write(1, i, due[i]);
       }
       System.arraycopy(new int[] {11, 12, 13, 14, 15}, way[0], due, way[1], way[2]);
-      Rows.due("copy within", x, "copy(1, " + way[0] + ", 1, " + way[1] + ", " + way[2] + ") = " + way[2], "load(1) = 5");
+      Rows.due("copy within", x, "copy(1, " + way[0] + ", 1, " + way[1] + ", " + way[2] + ") = " + way[2],
+          "load(1) = 5");
       for (int t = 0; t < 5; t++) {
         Rows.due("copy within " + way[0] + " to " + way[1], x, "of(" + t + ", 2) = " + due[t]);
       }
@@ -183,16 +179,16 @@ public final class SheetEdgesTest {
     for (int t = 0; t < 10; t++) {
       ten.add("thing(0)");
     }
-    Rows.after(and(ten, "sheet(0, 8, 40)"), "load of 40 numbers", "load(0) = 10", "count(4) = 0", "write(0, 9, 99) = 1",
-        "load(0) = 10", "of(9, 2) = 99", "write(0, 9, 100) = 1", "load(0) = 9", "of(9, 2) = 99", "write(0, 10, -1) = 1",
-        "write(0, 9, 0) = 1", "load(0) = 10", "of(9, 2) = 0");
-    Rows.after(and(ten, "sheet(0, 8, 9)"), "load of 9 numbers", "load(0) = 9", "count(4) = 10", "of(9, 2) = 10");
-    Rows.after(and(ten, "sheet(0, 32, 2)"), "load ends", "write(0, 0, -1) = 1", "load(0) = 0", "of(0, 2) = 10",
+    Rows.after(Hens.and(ten, "sheet(0, 8, 40)"), "load of 40 numbers", "load(0) = 10", "count(4) = 0",
+        "write(0, 9, 99) = 1", "load(0) = 10", "of(9, 2) = 99", "write(0, 9, 100) = 1", "load(0) = 9", "of(9, 2) = 99",
+        "write(0, 10, -1) = 1", "write(0, 9, 0) = 1", "load(0) = 10", "of(9, 2) = 0");
+    Rows.after(Hens.and(ten, "sheet(0, 8, 9)"), "load of 9 numbers", "load(0) = 9", "count(4) = 10", "of(9, 2) = 10");
+    Rows.after(Hens.and(ten, "sheet(0, 32, 2)"), "load ends", "write(0, 0, -1) = 1", "load(0) = 0", "of(0, 2) = 10",
         "of(1, 2) = 10", "write(0, 0, 0) = 1", "write(0, 1, 100) = 1", "load(0) = 1", "of(0, 2) = 0", "of(1, 2) = 10",
         "write(0, 1, MAX) = 1", "load(0) = 1", "write(0, 1, MIN) = 1", "load(0) = 1", "write(0, 1, 99) = 1",
         "load(0) = 2", "of(1, 2) = 99", "sheet(0, 32, 0) = 0", "load(0) = 0", "of(0, 2) = 0");
-    Rows.after(List.of("thing(1)", "thing(0)", "fed(0)", "days(1)", "fed(1)", "sheet(0, 8, 2)"), "laid ones and those in",
-        "load(0) = 2", "of(0, 2) = 0", "of(1, 2) = 0", "worth(1) = 0", "home(0) = 5");
+    Rows.after(List.of("thing(1)", "thing(0)", "fed(0)", "days(1)", "fed(1)", "sheet(0, 8, 2)"),
+        "laid ones and those in", "load(0) = 2", "of(0, 2) = 0", "of(1, 2) = 0", "worth(1) = 0", "home(0) = 5");
   }
 
   private static void promise42Judge() {
@@ -203,10 +199,10 @@ public final class SheetEdgesTest {
         "judge(0) = 2", "write(0, 1, 5) = 1", "judge(0) = 3", "write(0, 2, -1) = 1", "judge(0) = 4",
         "write(0, 3, -1) = 1", "judge(0) = 0", "write(0, 0, 6) = 1", "judge(0) = 1", "write(0, 0, 4) = 1",
         "judge(0) = 1", "write(0, 0, -1) = 1", "judge(0) = 1", "now(0) = 0", "now(1) = 2");
-    Rows.after(and(calls, "sheet(0, 8, 2)", "change(0, 2, 1)", "change(1, 2, 0)"), "an egg worth 0 isn't none",
+    Rows.after(Hens.and(calls, "sheet(0, 8, 2)", "change(0, 2, 1)", "change(1, 2, 0)"), "an egg worth 0 isn't none",
         "judge(0) = 0", "write(0, 1, -1) = 1", "judge(0) = 2", "write(0, 1, 0) = 1", "judge(0) = 0",
         "write(0, 0, -1) = 1", "judge(0) = 1");
-    FedHen x = Rows.make(and(calls, "sheet(0, 32, 40)", "days(2)"));
+    FedHen x = Rows.make(Hens.and(calls, "sheet(0, 32, 40)", "days(2)"));
     for (int i = 0; i < 40; i++) {
       Rows.due("judge of 40", x, "judge(0) = " + (i + 1), "write(0, " + i + ", -1) = 1");
     }

@@ -34,21 +34,23 @@ public final class SweepTest {
       Map.entry("bits", new int[] {MIN, -8, 0, 1, 8, 16, 32, 64, MAX}),
       Map.entry("count", new int[] {MIN, -1, 0, 1, 2, 3, 39, 40, 41, MAX}),
       Map.entry("from", new int[] {MIN, -1, 0, 1, 2, 3, 40, MAX}),
-      Map.entry("set", new int[] {MIN, -1, 0, 1, 2, 6, 8, 16, 24, 31, 32, 62, 63, 512, 768, 1023, 1024, 1 << 31 | 1, MAX}));
+      Map.entry("set", new int[] {MIN, -1, 0, 1, 2, 6, 8, 16, 24, 31, 32, 62, 63, 512, 768, 1023, 1024, 1 << 31 | 1,
+          MAX}));
 
   public static void main(String[] args) {
     List<String> out = new ArrayList<>(List.of("rule(1, 3)"));
     for (int t = 0; t < 7; t++) {
-      out.addAll(List.of("thing(" + t + ")", "change(" + t + ", 3, " + t % 2 + ")", "change(" + t + ", 2, " + (9 + 7 * t) + ")"));
+      out.addAll(List.of("thing(" + t + ")", "change(" + t + ", 3, " + t % 2 + ")",
+          "change(" + t + ", 2, " + (9 + 7 * t) + ")"));
     }
     sweep("empty", List.of());
-    sweep("busy", States.busy());
-    sweep("tight", States.tight());
-    sweep("full", States.full());
-    sweep("eggs", States.eggs());
+    sweep("busy", Hens.busy());
+    sweep("tight", Hens.tight());
+    sweep("full", Hens.full());
+    sweep("eggs", Hens.eggs());
     sweep("out", out);
     for (int day : new int[] {9939, 9990, 9998, 9999}) {
-      sweep("day " + day, States.late(day));
+      sweep("day " + day, Hens.late(day));
     }
     Check.end();
   }

@@ -1,7 +1,7 @@
 import java.util.ArrayList;
 import java.util.List;
 
-/** The bounds that the Terms' 3. A TEXT and promises 33 to 35 name: each way in which a TEXT can fail, the tape's end. */
+/** The bounds that the Terms' 3. A TEXT and promises 33 to 35 name: each way to fail, the end of the tape. */
 public final class TextEdgesTest {
   /** The TOKENS of a TEXT of four ITEMS. */
   private static final String[] TOKENS = {"thing", "bulk", "3", "worth", "50", "of", "1", ";", "room", "20", ";",
@@ -27,12 +27,6 @@ public final class TextEdgesTest {
     Check.end();
   }
 
-  private static List<String> and(List<String> setup, String... more) {
-    List<String> calls = new ArrayList<>(setup);
-    calls.addAll(List.of(more));
-    return calls;
-  }
-
   /** The answer of text() to a text on a new hen; with a FAULT, no ITEM of it holds. */
   private static FedHen told(String text, int due) {
     FedHen x = new FedHen();
@@ -52,12 +46,13 @@ public final class TextEdgesTest {
   private static void promise33Feed() {
     List<String> to116 = List.of("tape " + "gold".repeat(29));
     Rows.after(to116, "116 bytes", "count(5) = 116", "feed(0, 4) = 120", "feed(0, 1) = FULL", "count(5) = 120");
-    Rows.after(and(to116, "feed(0, 1)"), "117 bytes", "feed(0, 4) = FULL", "count(5) = 117", "feed(0, 3) = 120");
-    Rows.after(and(to116, "feed(0, 2)"), "118 bytes", "feed(0, 4) = FULL", "feed(0, 3) = FULL", "count(5) = 118",
+    Rows.after(Hens.and(to116, "feed(0, 1)"), "117 bytes", "feed(0, 4) = FULL", "count(5) = 117", "feed(0, 3) = 120");
+    Rows.after(Hens.and(to116, "feed(0, 2)"), "118 bytes", "feed(0, 4) = FULL", "feed(0, 3) = FULL", "count(5) = 118",
         "feed(0, 2) = 120", "feed(0, 2) = FULL");
-    Rows.after(and(to116, "feed(0, 3)"), "119 bytes", "feed(0, 4) = FULL", "feed(0, 3) = FULL", "feed(0, 2) = FULL",
-        "count(5) = 119", "feed(0, 1) = 120", "feed(0, 1) = FULL", "feed(0, 0) = BEYOND", "feed(0, 5) = BEYOND",
-        "feed(0, -1) = BEYOND", "feed(0, MIN) = BEYOND", "feed(0, MAX) = BEYOND", "status(0) = 5", "status(1) = 4");
+    Rows.after(Hens.and(to116, "feed(0, 3)"), "119 bytes", "feed(0, 4) = FULL", "feed(0, 3) = FULL",
+        "feed(0, 2) = FULL", "count(5) = 119", "feed(0, 1) = 120", "feed(0, 1) = FULL", "feed(0, 0) = BEYOND",
+        "feed(0, 5) = BEYOND", "feed(0, -1) = BEYOND", "feed(0, MIN) = BEYOND", "feed(0, MAX) = BEYOND",
+        "status(0) = 5", "status(1) = 4");
     Rows.after(List.of(), "feed", "feed(0, 0) = BEYOND", "feed(0, 1) = 1", "feed(0, 4) = 5", "feed(0, 5) = BEYOND",
         "feed(0, -1) = BEYOND", "feed(0, MIN) = BEYOND", "feed(0, MAX) = BEYOND", "count(5) = 5");
     // A refused one leaves the tape as it was.
@@ -74,16 +69,17 @@ public final class TextEdgesTest {
     Rows.after(List.of("feed(" + room + ", 4)"), "two bytes", seven + " = 6", "text() = 1", "now(5) = 17");
     Rows.after(List.of("feed(" + room + ", 4)"), "one byte", "feed(" + ('1' << 8 | '7') + ", 1) = 5", "text() = 1",
         "now(5) = 7");
-    Rows.after(List.of("feed(" + room + ", 4)"), "three bytes", "feed(" + (-1 << 24 | '1' << 16 | '7' << 8 | ';') + ", 3) = 7",
-        "feed(" + room + ", 4) = 11", "feed(" + (Integer.MIN_VALUE | '8') + ", 1) = 12", "text() = 2", "now(5) = 8");
+    Rows.after(List.of("feed(" + room + ", 4)"), "three bytes",
+        "feed(" + (-1 << 24 | '1' << 16 | '7' << 8 | ';') + ", 3) = 7", "feed(" + room + ", 4) = 11",
+        "feed(" + (Integer.MIN_VALUE | '8') + ", 1) = 12", "text() = 2", "now(5) = 8");
     Rows.after(List.of(), "bytes above 127", "feed(-1, 4) = 4", "text() = -1", "feed(-1, 1) = 1", "text() = -1",
         "feed(MIN, 4) = 4", "text() = -1", "feed(MAX, 4) = 4", "text() = -1",
         "feed(" + ('a' + 128) + ", 1) = 1", "text() = -1");
   }
 
   private static void promise34Wipe() {
-    Rows.after(List.of("tape " + "x".repeat(120)), "wipe of the full tape", "wipe() = 120", "wipe() = 0", "count(5) = 0",
-        "feed(0, 4) = 4", "wipe() = 4");
+    Rows.after(List.of("tape " + "x".repeat(120)), "wipe of the full tape", "wipe() = 120", "wipe() = 0",
+        "count(5) = 0", "feed(0, 4) = 4", "wipe() = 4");
     Rows.after(List.of("tape room"), "wipe in a word", "wipe() = 4", "tape  7 = 2", "text() = -2", "now(5) = 12");
   }
 
@@ -227,17 +223,19 @@ public final class TextEdgesTest {
     for (int t = 0; t < 9; t++) {
       nine.add("thing(0)");
     }
-    Rows.after(and(nine, "tape gold;room 7"), "the 10th thing", "text() = 2", "count(1) = 10", "of(9, 0) = 3",
+    Rows.after(Hens.and(nine, "tape gold;room 7"), "the 10th thing", "text() = 2", "count(1) = 10", "of(9, 0) = 3",
         "now(5) = 7");
-    Rows.after(and(nine, "tape gold; ring"), "the 11th thing", "text() = -7", "count(1) = 9", "count(5) = 0");
-    Rows.after(and(nine, "tape gold;ring bulk 0"), "the 11th thing ahead of its number", "text() = -6", "count(1) = 9");
-    Rows.after(and(nine, "tape gold bulk 0;ring"), "a number ahead of the 11th thing", "text() = -11", "count(1) = 9");
-    Rows.after(and(nine, "tape gold;room 7;ring"), "room ahead of the 11th thing", "text() = -13", "now(5) = 12",
+    Rows.after(Hens.and(nine, "tape gold; ring"), "the 11th thing", "text() = -7", "count(1) = 9", "count(5) = 0");
+    Rows.after(Hens.and(nine, "tape gold;ring bulk 0"), "the 11th thing ahead of its number", "text() = -6",
         "count(1) = 9");
-    List<String> ten = and(nine, "thing(0)");
-    Rows.after(and(ten, "tape thing"), "the 11th thing at once", "text() = -1", "count(1) = 10");
-    Rows.after(and(ten, "tape   deed x"), "the 11th thing behind blanks", "text() = -3", "count(1) = 10");
-    Rows.after(and(ten, "tape room 7;hunger 7"), "no thing", "text() = 2", "now(5) = 7", "now(6) = 7");
+    Rows.after(Hens.and(nine, "tape gold bulk 0;ring"), "a number ahead of the 11th thing", "text() = -11",
+        "count(1) = 9");
+    Rows.after(Hens.and(nine, "tape gold;room 7;ring"), "room ahead of the 11th thing", "text() = -13", "now(5) = 12",
+        "count(1) = 9");
+    List<String> ten = Hens.and(nine, "thing(0)");
+    Rows.after(Hens.and(ten, "tape thing"), "the 11th thing at once", "text() = -1", "count(1) = 10");
+    Rows.after(Hens.and(ten, "tape   deed x"), "the 11th thing behind blanks", "text() = -3", "count(1) = 10");
+    Rows.after(Hens.and(ten, "tape room 7;hunger 7"), "no thing", "text() = 2", "now(5) = 7", "now(6) = 7");
     String all = "ring;".repeat(10);
     Rows.due("10 things", told(all.substring(0, 49), 10), "count(1) = 10", "of(9, 0) = 4", "of(10, 0) = BEYOND");
     fault(all + "ring", 50);
@@ -282,7 +280,8 @@ public final class TextEdgesTest {
 
   /** Beside a hen whose tape was wiped instead. */
   private static void promise35FaultChangesNothing() {
-    for (String text : new String[] {"room 1;hunger 9;gold;ring;!", "gold bulk 9 worth 99 of 1;room 0", "room 3;", "x"}) {
+    for (String text : new String[] {"room 1;hunger 9;gold;ring;!", "gold bulk 9 worth 99 of 1;room 0", "room 3;",
+        "x"}) {
       List<String> setup = List.of("thing(4)", "thing(1)", "fed(0)", "days(1)", "hold(3, 1)", "image()", "fed(1)",
           "seed(8)", "sheet(0, 8, 3)", "tape " + text);
       FedHen x = Rows.make(setup);

@@ -1,7 +1,7 @@
 import java.util.ArrayList;
 import java.util.List;
 
-/** All that can be asked of a hen (or of a Model), STATUS ahead; it is used up by it, and takes some 360 calls at most. */
+/** What can be asked of a hen (or of a Model), as rows; of() uses it up, and takes some 360 calls at most. */
 final class Told {
   private Told() {}
 

@@ -2,12 +2,21 @@ import java.util.ArrayList;
 import java.util.List;
 
 /** Hens that some tests begin with, as the calls by which a new one becomes so. */
-final class States {
-  private States() {}
+final class Hens {
+  private Hens() {}
 
   static List<String> and(List<String> setup, String... more) {
     List<String> calls = new ArrayList<>(setup);
     calls.addAll(List.of(more));
+    return calls;
+  }
+
+  /** THINGS of these kinds, all as at first else, and HUNGER 0. */
+  static List<String> sated(int... kinds) {
+    List<String> calls = new ArrayList<>(List.of("rule(1, 0)"));
+    for (int kind : kinds) {
+      calls.add("thing(" + kind + ")");
+    }
     return calls;
   }
 
