@@ -28,6 +28,7 @@ public final class FaceTest {
       no("the class " + inner + " isn't static", !Modifier.isStatic(m));
       fields(inner);
     }
+    signatures();
     source();
     Check.end();
   }
@@ -86,6 +87,20 @@ public final class FaceTest {
       own += isStatic ? 0 : 1;
     }
     no(c + " has " + own + " fields", own > 20);
+  }
+
+  /** The parameters bear the document's names, and the source has no other public line. */
+  private static void signatures() throws IOException {
+    Check.due("the public lines of the source, as told", publicLines(SOURCE).equals(publicLines(DOCUMENT)) ? 1 : 0, 1);
+  }
+
+  private static List<String> publicLines(Path path) throws IOException {
+    List<String> all = new ArrayList<>();
+    Matcher m = Pattern.compile("(?m)^ *(public [^;{]*)").matcher(Files.readString(path));
+    while (m.find()) {
+      all.add(m.group(1).trim());
+    }
+    return all;
   }
 
   private static void source() throws IOException {
